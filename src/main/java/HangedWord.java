@@ -20,11 +20,9 @@ public final class HangedWord {
     private final Ways ways = new Ways();
     private final Sheet[] sheets = new Sheet[SHEETS];
     private final Slot[] slots = new Slot[SLOTS];
-    private final int[] tape = new int[MOST_BYTES];
-    private final Reader reader = new Reader(tape);
+    private final Tape tape = new Tape();
     private final int[] waiting = new int[MOST_WAITING];
     private boolean imageKept = false;
-    private int tapeLength = 0;
     private int waitingCount = 0;
 
     public HangedWord() {
@@ -283,27 +281,27 @@ public final class HangedWord {
     // ---- texts
 
     public int feed(int a, int b, int c) {
-        if (tapeLength + 12 > MOST_BYTES) {
+        if (tape.length + 12 > MOST_BYTES) {
             return FULL;
         }
-        feedBytes(a);
-        feedBytes(b);
-        feedBytes(c);
-        return tapeLength;
+        tape.takeFour(a);
+        tape.takeFour(b);
+        tape.takeFour(c);
+        return tape.length;
     }
 
     public int trim(int n) {
-        if (n < 0 || n > tapeLength) {
+        if (n < 0 || n > tape.length) {
             return BAD;
         }
-        tapeLength = n;
+        tape.length = n;
         return n;
     }
 
     public int text() {
-        int length = tapeLength;
-        tapeLength = 0;
-        return reader.isText(length) ? now.addText(reader.textRead()) : -100 - reader.place;
+        int answer = tape.isText() ? now.addText(tape.textRead()) : -100 - tape.place;
+        tape.length = 0;
+        return answer;
     }
 
     public int textTold(int text, int what) {
@@ -552,7 +550,7 @@ public final class HangedWord {
             case 4: return now.gallows;
             case 5: return now.textCount;
             case 6: return waitingCount;
-            case 7: return tapeLength;
+            case 7: return tape.length;
             case 8: return now.z;
             default: return BAD;
         }
@@ -624,15 +622,6 @@ public final class HangedWord {
             return NONE;
         }
         return now.nextOf(asker, now.asked, now.fitting());
-    }
-
-    private void feedBytes(int four) {
-        for (int shift = 24; shift >= 0; shift -= 8) {
-            if (tapeLength < MOST_BYTES) {
-                tape[tapeLength] = four >>> shift & 255;
-                tapeLength++;
-            }
-        }
     }
 
     /** All that AN IMAGE keeps, and the thinking that needs no more than that. */
@@ -1128,14 +1117,14 @@ public final class HangedWord {
         }
     }
 
-    /** Reads THE TAPE as a TEXT. Nothing is passed over till it is known to go on, so FAULT is where reading ends. */
-    private static final class Reader {
+    /** THE TAPE. It reads itself as a TEXT: nothing is passed over till it goes on so, and FAULT is where that ends. */
+    private static final class Tape {
         private static final int END = 0, WORD = 1, DIGITS = 2, SIGN = 3;
         private static final int DEEPEST = 8, MOST_DIGITS = 4;
 
-        private final int[] tape;
-        private int length = 0;
-        /** Of the word or sign at hand: where it begins, where it ends, what it is. */
+        private final int[] bytes = new int[MOST_BYTES];
+        int length = 0;
+        /** Of the word or sign at hand: where it begins, where it ends, what it is, whether it is right behind a word. */
         int place = 0;
         private int end = 0;
         private int sort = END;
@@ -1144,22 +1133,26 @@ public final class HangedWord {
         private int stepCount = 0;
         private int key = -1;
         private int pieces = 0;
+        /** How many are open. */
         private int brackets = 0;
         private int nots = 0;
 
-        Reader(int[] tape) {
-            this.tape = tape;
+        /** Four bytes of a number, the highest first. */
+        void takeFour(int number) {
+            for (int shift = 24; shift >= 0; shift -= 8) {
+                if (length < MOST_BYTES) {
+                    bytes[length] = number >>> shift & 255;
+                    length++;
+                }
+            }
         }
 
-        /** Whether the first bytes, so many, are a TEXT; else FAULT is at place. */
-        boolean isText(int bytes) {
-            length = Math.min(bytes, tape.length);
+        /** Whether it is a TEXT; else FAULT is at place. */
+        boolean isText() {
             end = 0;
             sort = END;
             stepCount = 0;
             pieces = 0;
-            brackets = 0;
-            nots = 0;
             goOn();
             key = keyAtHand();
             if (key < 0) {
@@ -1189,11 +1182,11 @@ public final class HangedWord {
             boolean behindWord = sort == WORD || sort == DIGITS;
             int from = end;
             place = from;
-            while (place < length && tape[place] == ' ') {
+            while (place < length && bytes[place] == ' ') {
                 place++;
             }
             sort = sortAt(place);
-            needsBlank = behindWord && place == from && (sort == WORD || sort == DIGITS);
+            needsBlank = behindWord && place == from;
             end = sort == END ? place : place + 1;
             while (sort != SIGN && end < length && sortAt(end) == sort) {
                 end++;
@@ -1204,12 +1197,12 @@ public final class HangedWord {
             if (at < 0 || at >= length) {
                 return END;
             }
-            int sign = tape[at];
+            int sign = bytes[at];
             return sign >= 'a' && sign <= 'z' ? WORD : sign >= '0' && sign <= '9' ? DIGITS : SIGN;
         }
 
         private boolean isSign(char sign) {
-            return sort == SIGN && place < length && tape[place] == sign;
+            return sort == SIGN && place < length && bytes[place] == sign;
         }
 
         private boolean isAtHand(String word) {
@@ -1217,7 +1210,7 @@ public final class HangedWord {
                 return false;
             }
             for (int i = 0; i < word.length(); i++) {
-                if (tape[place + i] != word.charAt(i)) {
+                if (bytes[place + i] != word.charAt(i)) {
                     return false;
                 }
             }
@@ -1260,7 +1253,7 @@ public final class HangedWord {
             if (!isSign('<') && !isSign('=') && !isSign('>')) {
                 return true;
             }
-            int sign = tape[place];
+            int sign = bytes[place];
             goOn();
             boolean goes = readSum();
             step(-sign);
@@ -1270,7 +1263,7 @@ public final class HangedWord {
         private boolean readSum() {
             boolean goes = readTerm();
             for (int i = 0; i < MOST_BYTES && goes && (isSign('+') || isSign('-')); i++) {
-                int sign = tape[place];
+                int sign = bytes[place];
                 goOn();
                 goes = readTerm();
                 step(-sign);
@@ -1281,7 +1274,7 @@ public final class HangedWord {
         private boolean readTerm() {
             boolean goes = readPiece();
             for (int i = 0; i < MOST_BYTES && goes && (isSign('*') || isSign('/')); i++) {
-                int sign = tape[place];
+                int sign = bytes[place];
                 goOn();
                 goes = readPiece();
                 step(-sign);
@@ -1305,7 +1298,7 @@ public final class HangedWord {
             }
             int number = 0;
             for (int at = place; at < end; at++) {
-                number = number * 10 + tape[at] - '0';
+                number = number * 10 + bytes[at] - '0';
             }
             step(number);
             pieces++;
@@ -1314,7 +1307,7 @@ public final class HangedWord {
         }
 
         private boolean readName() {
-            int name = names().indexOf((char) tape[place]);
+            int name = names().indexOf((char) bytes[place]);
             if (needsBlank || end - place != 1 || name < 0) {
                 return false;
             }

@@ -168,6 +168,10 @@ public final class AheadTest {
         x.asks(5);
         due.is(23, "HUNG, but it could be", x.best(0), 2);
         due.is(23, "by", x.best(1), 0);
+        Due.text(x, "draw 0");
+        x.choose();
+        due.is(23, "none is HIDDEN any more", x.best(0), 0);
+        due.is(23, "so there is no LETTER", x.best(1), Due.NONE);
         bestByPlaces();
     }
 

@@ -72,6 +72,8 @@ public final class RowsImagesTest {
             tellAll(x, told, 40);
             due.is(43, "wrong at " + wrong, x.check(0, 20), 1 + wrong);
             told[wrong] -= 1;
+            tellAll(x, told, 40);
+            due.is(43, "none is wrong", x.check(0, 20), 0);
             tellAll(x, told, wrong);
             due.is(43, "missing at " + wrong, x.check(0, 20), 1 + wrong);
         }

@@ -105,6 +105,11 @@ public final class TextsTest {
         due.is(32, "the one that was told last", x.fine(), 7);
         Due.text(x, "fine 8 8");
         due.is(32, "a FAULT tells none", x.why(2), 2);
+        Due.text(x, "fine ((((((((9");
+        Due.text(x, "fine !!!!!!!!");
+        due.is(30, "a FAULT leaves nothing behind", Due.text(x, "fine ((((((((!!!!!!!!9))))))))"), 3);
+        due.is(31, "its own NUMBERS alone", x.textTold(3, 1), 1);
+        due.is(32, "it counts", x.fine(), 1);
     }
 
     private static void gives(String text, int want) {
@@ -234,6 +239,15 @@ public final class TextsTest {
         fault("ask 5 n", 6);
         fault("ask n w", 6);
         fault("ask nw", 4);
+        fault("ask na", 4);
+        fault("ask nz", 4);
+        fault("bsk n", 0);
+        fault("aks n", 0);
+        fault("asl n", 0);
+        fault("eraw n", 0);
+        fault("drax n", 0);
+        fault("gine l", 0);
+        fault("finf l", 0);
         fault("ask n+", 6);
         fault("ask n+ ", 7);
         fault("ask n+*2", 6);
