@@ -43,7 +43,7 @@ final class Due {
         x.trim(all.length);
     }
 
-    private static int four(byte[] all, int from) {
+    static int four(byte[] all, int from) {
         int number = 0;
         for (int i = from; i < from + 4; i++) {
             number = number << 8 | (i < all.length ? all[i] & 255 : ' ');
