@@ -121,7 +121,7 @@ final class BoundsRowsImages {
         b.test(43, says, "tell(1); check(0, 1) = NO; check(7, 1) = NO; check(8, 1) = BAD; keep(); check(0, 1) = NO; check(7, 20) = NO",
             "asker(0, 0); tell(1); check(0, 1) = NO; count(6) = 0; check(0, 21) = BAD; keep(); check(0, 1) = 1; check(1, 1) = NO; back()",
             "check(0, 1) = 1");
-        // In THE IMAGE, though not there now.
+        // There now, but not in THE IMAGE.
         b.test(43, says, "keep(); asker(0, 0); check(0, 1) = NO; back() = 0; count(1) = 0; check(0, 1) = NO; asker(0, 0); keep()",
             "asker(0, 0); check(1, 1) = NO; check(0, 1) = 1; check(1, 0) = BAD");
     }

@@ -44,8 +44,7 @@ final class BoundsTerms {
             "3 * tell(1); check(0, 0) = BAD; count(6) = 0; 3 * tell(1); check(0, 1) = NO; count(6) = 0");
         b.test(18, "NONE: there is none.", "game(0) = NONE; best(1) = NONE; why(0) = NONE; choose() = NONE");
         b.test(18, "Sets of WORDS and of LETTERS are told by bits.",
-            "12 * word(w0000, 1); game(6) = 0; hide(0) = 12; game(6) = 4095; weigh(11, 2); asks(0) = 15; game(6) = 4095",
-            "gallows(9); back() = NO");
+            "12 * word(w0000, 1); game(6) = 0; hide(0) = 12; game(6) = 4095; asks(0) = 15; game(6) = 4095");
         b.test(18, "Sets of WORDS and of LETTERS are told by bits.",
             "word(w5555, 1); word(w0123, 1); hide(0) = 2; game(1) = 0; asks(0) = 0; game(1) = 1; game(6) = 1; asks(4) = 0; game(1) = 17",
             "asks(1) = 0; asks(2) = 0; asks(3) = 0; game(1) = 31; asks(5) = 15; game(1) = 63");
@@ -282,7 +281,7 @@ final class BoundsTerms {
             "seed(MAX); deal(1); count(8) = " + Due.nextZ(Due.nextZ(Due.MAX)) + "; wordTold(1, 0) = " + ((Due.nextZ(Due.MAX) >>> 8) % 1296),
             "seed(MIN); deal(1); count(8) = " + Due.nextZ(Due.nextZ(Due.MIN)) + "; wordTold(2, 0) = " + ((Due.nextZ(Due.MIN) >>> 8) % 1296));
         b.test(11, "A draw: z becomes z * 1103515245 + 12345 (an int); it gives z >>> 8.",
-            // Behind it z is 255, 256; MAX; MIN; -1.
+            // Behind it z is 0, 256; the greatest that it can be so; below 0 from MIN on.
             "word(0, 1); word(0, 1); seed(d0); choose() = 0; count(8) = 0; seed(d1); choose() = 1; count(8) = 256; seed(d8388607)",
             "choose() = 1; count(8) = 2147483392",
             "seed(d8388608); choose() = 0; count(8) = MIN; seed(d8388609); choose() = 1; count(8) = -2147483392; seed(d16777215)",
