@@ -32,10 +32,13 @@ final class Call {
         return new Call(name, Arrays.stream(parts).mapToInt(part -> number(part.trim())).toArray());
     }
 
-    /** w0123: LETTERS 0 1 2 3; d7: the z whose next draw gives 7; e7: the z whose next draw but one gives 7. */
+    /** w0123: LETTERS 0 1 2 3; 0x1f: by sixteens; d7: the z whose next draw gives 7; e7: the z whose next draw but one gives 7. */
     static int number(String told) {
         if (NAMED.containsKey(told)) {
             return NAMED.get(told);
+        }
+        if (told.startsWith("0x")) {
+            return Integer.parseUnsignedInt(told.substring(2), 16);
         }
         int tail = Integer.parseInt(Character.isLetter(told.charAt(0)) ? told.substring(1) : told);
         switch (told.charAt(0)) {
